@@ -385,7 +385,6 @@ public final class StickerFoundry {
         /** Whether the text is in cycles; only then do the other methods tell of it. */
         boolean read(Text text) {
             count = 0;
-            firstOfCycle = 0;
             current = NO_NUMBER;
             isOpen = false;
             for (int i = 0; i < text.length(); i++) {
@@ -801,7 +800,7 @@ public final class StickerFoundry {
 
         private final long[] rowsFromHere = new long[MOST_ROWS];
         private final long[] rowsFromSolved = new long[MOST_ROWS];
-        /** Layer d, all that d moves lead to, begins at layerStarts[d] and ends before layerStarts[d + 1]. */
+        /** Layer d, all that d moves lead to, begins at layerStarts[d] (layer 0 at 0) and ends before the next. */
         private final int[] layerStarts = new int[LAYERS + 2];
 
         int leastMoves(Moves moves, long row, int limit) {
@@ -818,7 +817,6 @@ public final class StickerFoundry {
 
         private void fillLayers(Moves moves, long start, long[] rows) {
             rows[0] = start;
-            layerStarts[0] = 0;
             layerStarts[1] = 1;
             int end = 1;
             for (int layer = 1; layer <= LAYERS; layer++) {

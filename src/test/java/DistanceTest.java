@@ -37,6 +37,7 @@ public final class DistanceTest {
         x.swap(0, stickers - 1);
         String name = " with " + String.join(", ", turns);
         String[] wanted = counts.split(" ");
+        Check.due("atDistance(0) asked first" + name, x.atDistance(0), 1);
         Check.due("diameter" + name, x.diameter(), wanted.length - 1);
         for (int d = 0; d < wanted.length; d++) {
             Check.due("atDistance(" + d + ")" + name, x.atDistance(d), Integer.parseInt(wanted[d]));

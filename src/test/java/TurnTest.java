@@ -9,6 +9,7 @@ public final class TurnTest {
         placesTwice();
         fiveTurns();
         firstNamedFirst();
+        afterRefusal();
         arrangementAndTextStay();
         images();
         writeTurns();
@@ -90,6 +91,15 @@ public final class TurnTest {
         refused(3, "(5)", IndexOutOfBoundsException.class, five);
         refused(3, "(0", IllegalArgumentException.class, five);
         refused(3, "(0)", UnsupportedOperationException.class, five);
+    }
+
+    private static void afterRefusal() {
+        StickerFoundry x = Check.puzzle(4);
+        Check.text(x, "(0 1)(2 3");
+        Check.refused(x, "turn() of an open cycle", IllegalArgumentException.class, () -> x.turn());
+        x.type(')', 1);
+        Check.due("turn() of the closed one", x.turn(), 0);
+        Check.due("the turn", Check.turnOf(x, 0), List.of(1, 0, 3, 2));
     }
 
     private static void arrangementAndTextStay() {
