@@ -1,24 +1,56 @@
-import java.util.ArrayList;
 import java.util.List;
 
-/** Counts answers that are not due, and has short ways to use a StickerFoundry in tests. */
+/** Counts answers that are not due, and tells with each the sentence of the document that asks for it. */
 final class Check {
-    /** A call that may throw. */
-    interface Call {
-        void make();
+    /** A call that changes something or throws. */
+    interface Do {
+        void to(Foundry x);
     }
 
+    /** A call that answers. */
+    interface Ask {
+        Object of(Foundry x);
+    }
+
+    private static final long MOST_SECONDS = 300;
+    private static final int MOST_SHOWN = 50;
+
+    private static String sentence = "";
     private static int wrong = 0;
     private static int checked = 0;
 
+    static {
+        Thread watch = new Thread(Check::failWhenLate);
+        watch.setDaemon(true);
+        watch.start();
+    }
+
     private Check() {
+    }
+
+    /** A call that does not end fails the test too. */
+    private static void failWhenLate() {
+        try {
+            Thread.sleep(MOST_SECONDS * 1000);
+        } catch (InterruptedException e) {
+            return;
+        }
+        System.out.println("no end after " + MOST_SECONDS + " seconds, at: " + sentence);
+        Runtime.getRuntime().halt(1);
+    }
+
+    /** What follows tests these words of the document, till the next are said. */
+    static void says(String where, String words) {
+        sentence = where + ": \"" + words + "\"";
     }
 
     static void due(String what, Object got, Object want) {
         checked++;
         if (!got.equals(want)) {
             wrong++;
-            System.out.println(what + ": answered " + got + ", due is " + want);
+            if (wrong <= MOST_SHOWN) {
+                System.out.println(sentence + "\n  " + what + ": answered " + got + ", due is " + want);
+            }
         }
     }
 
@@ -30,24 +62,64 @@ final class Check {
         due(what, got, false);
     }
 
-    /** The call throws just this exception, and nothing that can be asked of the object changes. */
-    static void refused(StickerFoundry x, String what, Class<? extends RuntimeException> why, Call call) {
-        String before = stateOf(x);
-        String thrown = "nothing";
+    /** What a call answers, or the name of what it throws. */
+    static String answer(Foundry x, Ask call) {
         try {
-            call.make();
+            return String.valueOf(call.of(x));
         } catch (RuntimeException e) {
-            thrown = e.getClass().getSimpleName();
+            return e.getClass().getSimpleName();
         }
-        due(what + " throws", thrown, why.getSimpleName());
-        due(what + " keeps the state", stateOf(x), before);
     }
 
-    /** The answer is false, and nothing that can be asked of the object changes. */
-    static void unchanged(StickerFoundry x, String what, Call call) {
-        String before = stateOf(x);
-        call.make();
-        due(what + " keeps the state", stateOf(x), before);
+    static String outcome(Foundry x, Do call) {
+        return answer(x, y -> {
+            call.to(y);
+            return "nothing";
+        });
+    }
+
+    /** The call throws just this, and all calls answer afterwards as they did before it. */
+    static void refused(State state, String what, Class<? extends RuntimeException> why, Do call) {
+        due(what + " throws", outcome(Counted.in(state), call), why.getSimpleName());
+        nothingChanges(state, what, call);
+    }
+
+    /** The call answers false, and all calls answer afterwards as they did before it. */
+    static void isFalse(State state, String what, Ask call) {
+        due(what, answer(Counted.in(state), call), "false");
+        nothingChanges(state, what, call::of);
+    }
+
+    /** The call answers this, and all calls answer afterwards as they did before it. */
+    static void onlyAnswers(State state, String what, Object want, Ask call) {
+        due(what, answer(Counted.in(state), call), String.valueOf(want));
+        nothingChanges(state, what, call::of);
+    }
+
+    /** An object that had the call answers all that one without it does, and all that it did itself before. */
+    static void nothingChanges(State state, String what, Do call) {
+        for (Report.Part part : Report.Part.values()) {
+            Counted with = Counted.in(state);
+            outcome(with, call);
+            same(what + " changes nothing", Report.of(with, part), Report.of(Counted.in(state), part));
+            if (!part.changes()) {
+                Counted asked = Counted.in(state);
+                List<String> before = Report.of(asked, part);
+                outcome(asked, call);
+                same(what + " changes nothing that was asked before", Report.of(asked, part), before);
+            }
+        }
+    }
+
+    /** Tells the first answer that is not the same. */
+    static void same(String what, List<String> got, List<String> want) {
+        for (int i = 0; i < Math.min(got.size(), want.size()); i++) {
+            if (!got.get(i).equals(want.get(i))) {
+                due(what, got.get(i), want.get(i));
+                return;
+            }
+        }
+        due(what + ": number of answers", got.size(), want.size());
     }
 
     static void finish() {
@@ -55,88 +127,5 @@ final class Check {
             System.out.println(wrong + " of " + checked + " answers are wrong");
             System.exit(1);
         }
-    }
-
-    static StickerFoundry puzzle(int stickers, String... turns) {
-        StickerFoundry x = new StickerFoundry();
-        yes("stickers(" + stickers + ")", x.stickers(stickers));
-        for (String turn : turns) {
-            text(x, turn);
-            x.turn();
-        }
-        return x;
-    }
-
-    static void text(StickerFoundry x, String text) {
-        x.cut(0);
-        for (int i = 0; i < text.length(); i += 8) {
-            String part = text.substring(i, Math.min(i + 8, text.length()));
-            yes("type " + part, x.type(bytes(part), part.length()));
-        }
-    }
-
-    static long bytes(String part) {
-        long w = 0;
-        for (int i = 0; i < part.length(); i++) {
-            w |= (long) part.charAt(i) << (8 * i);
-        }
-        return w;
-    }
-
-    static String textOf(StickerFoundry x) {
-        StringBuilder text = new StringBuilder();
-        for (int i = 0; x.character(i) != 0; i++) {
-            text.append((char) x.character(i));
-        }
-        return text.toString();
-    }
-
-    static int stickersOf(StickerFoundry x) {
-        int n = 0;
-        try {
-            for (; n < 1000; n++) {
-                x.place(n);
-            }
-        } catch (IndexOutOfBoundsException e) {
-            return n;
-        }
-        return n;
-    }
-
-    static List<Integer> rowOf(StickerFoundry x) {
-        List<Integer> row = new ArrayList<>();
-        for (int s = 0; s < stickersOf(x); s++) {
-            row.add(x.place(s));
-        }
-        return row;
-    }
-
-    static List<Integer> turnOf(StickerFoundry x, int turn) {
-        List<Integer> row = new ArrayList<>();
-        for (int p = 0; p < stickersOf(x); p++) {
-            row.add(x.image(turn, p));
-        }
-        return row;
-    }
-
-    static List<Integer> solutionOf(StickerFoundry x) {
-        List<Integer> moves = new ArrayList<>();
-        for (int i = 0; x.solution(i) != StickerFoundry.NONE; i++) {
-            moves.add(x.solution(i));
-        }
-        return moves;
-    }
-
-    /** All that can be asked without changing anything. */
-    static String stateOf(StickerFoundry x) {
-        StringBuilder state = new StringBuilder();
-        state.append(rowOf(x)).append(textOf(x)).append(solutionOf(x)).append(x.order()).append(x.reachable());
-        for (int t = 0; t < x.turns(); t++) {
-            state.append(turnOf(x, t));
-        }
-        for (int k = 0; k < stickersOf(x); k++) {
-            state.append(' ').append(x.orbit(k)).append(x.block(k, 0));
-        }
-        return state.toString();
     }
 }

@@ -10,9 +10,7 @@ import java.util.TreeSet;
  * The document once more, by the words of its terms and not by any cleverness: all reachable arrangements are made and
  * looked through. An arrangement is a String whose character s is the place of sticker s.
  */
-public final class PlainFoundry {
-    private static final int NONE = -1;
-
+public final class PlainFoundry implements Foundry {
     private final List<String> turns = new ArrayList<>();
     private final TreeSet<String> reachable = new TreeSet<>();
     private final Map<String, Integer> distances = new HashMap<>();
@@ -20,6 +18,17 @@ public final class PlainFoundry {
     private String text = "";
     private String table = solved(1);
     private int size = 1;
+
+    /** Another object in the same state. */
+    PlainFoundry copy() {
+        PlainFoundry other = new PlainFoundry();
+        other.turns.addAll(turns);
+        other.found = new ArrayList<>(found);
+        other.text = text;
+        other.table = table;
+        other.size = size;
+        return other;
+    }
 
     private static String solved(int n) {
         StringBuilder row = new StringBuilder();
@@ -60,6 +69,12 @@ public final class PlainFoundry {
         }
     }
 
+    private void checkTurn(int turn) {
+        if (turn < 0 || turn >= turns.size()) {
+            throw new IndexOutOfBoundsException();
+        }
+    }
+
     /** By breadth, so that each is met first with its distance. */
     private TreeSet<String> all() {
         if (reachable.isEmpty()) {
@@ -80,6 +95,7 @@ public final class PlainFoundry {
         return reachable;
     }
 
+    @Override
     public boolean stickers(int n) {
         if (n < 1 || n > 12) {
             return false;
@@ -91,6 +107,7 @@ public final class PlainFoundry {
         return true;
     }
 
+    @Override
     public boolean type(long w, int n) {
         String more = "";
         for (int i = 0; i < n && i < 8; i++) {
@@ -103,6 +120,7 @@ public final class PlainFoundry {
         return true;
     }
 
+    @Override
     public boolean cut(int n) {
         if (n < 0 || n > text.length()) {
             return false;
@@ -111,6 +129,7 @@ public final class PlainFoundry {
         return true;
     }
 
+    @Override
     public int turn() {
         if (!text.matches(" *(\\( *(0|[1-9][0-9]?)( +(0|[1-9][0-9]?))* *\\) *)*")) {
             throw new IllegalArgumentException();
@@ -147,22 +166,27 @@ public final class PlainFoundry {
         return turns.size() - 1;
     }
 
+    @Override
     public int turns() {
         return turns.size();
     }
 
+    @Override
     public int image(int turn, int place) {
         check(place);
+        checkTurn(turn);
         return turns.get(turn).charAt(place);
     }
 
+    @Override
     public void move(int move) {
-        if (move < 0) {
+        if (move < 0 || move >= 2 * turns.size()) {
             throw new IndexOutOfBoundsException();
         }
         table = moved(table, move);
     }
 
+    @Override
     public void swap(int a, int b) {
         check(a, b);
         char[] row = table.toCharArray();
@@ -173,19 +197,23 @@ public final class PlainFoundry {
         table = new String(row);
     }
 
+    @Override
     public void reset() {
         table = solved(size);
     }
 
+    @Override
     public int place(int sticker) {
         check(sticker);
         return table.charAt(sticker);
     }
 
+    @Override
     public long order() {
         return all().size();
     }
 
+    @Override
     public int orbit(int k) {
         check(k);
         int count = 0;
@@ -195,6 +223,7 @@ public final class PlainFoundry {
         return count;
     }
 
+    @Override
     public boolean inOrbit(int k, int p) {
         check(k, p);
         String start = solved(size).substring(0, k) + (char) p;
@@ -202,10 +231,12 @@ public final class PlainFoundry {
         return from != null && from.startsWith(start);
     }
 
+    @Override
     public boolean reachable() {
         return all().contains(table);
     }
 
+    @Override
     public long rank() {
         if (!reachable()) {
             throw new IllegalStateException();
@@ -213,6 +244,7 @@ public final class PlainFoundry {
         return all().headSet(table).size();
     }
 
+    @Override
     public void unrank(long rank) {
         if (rank < 0 || rank >= all().size()) {
             throw new NoSuchElementException();
@@ -221,6 +253,7 @@ public final class PlainFoundry {
     }
 
     /** Two are in one class if pairs that arrangements make of j and the least place lead from one to the other. */
+    @Override
     public int block(int j, int s) {
         check(j, s);
         int least = j;
@@ -254,16 +287,19 @@ public final class PlainFoundry {
         }
     }
 
+    @Override
     public int diameter() {
         checkFew();
         return distances.values().stream().max(Integer::compare).get();
     }
 
+    @Override
     public int atDistance(int d) {
         checkFew();
         return (int) distances.values().stream().filter(distance -> distance == d).count();
     }
 
+    @Override
     public int solve() {
         checkFew();
         if (!reachable()) {
@@ -293,10 +329,12 @@ public final class PlainFoundry {
         return false;
     }
 
+    @Override
     public int solution(int i) {
         return i >= 0 && i < found.size() ? found.get(i) : NONE;
     }
 
+    @Override
     public int within(int limit) {
         if (limit < 0 || limit > 4) {
             throw new IllegalArgumentException();
@@ -317,7 +355,11 @@ public final class PlainFoundry {
         return NONE;
     }
 
+    @Override
     public int write(int t) {
+        if (t != NONE) {
+            checkTurn(t);
+        }
         String row = t == NONE ? table : turns.get(t);
         boolean[] written = new boolean[size];
         text = "";
@@ -332,6 +374,7 @@ public final class PlainFoundry {
         return text.length();
     }
 
+    @Override
     public int character(int i) {
         return i >= 0 && i < text.length() ? text.charAt(i) : 0;
     }

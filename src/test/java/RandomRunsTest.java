@@ -1,5 +1,6 @@
 import java.lang.reflect.InvocationTargetException;
 import java.lang.reflect.Method;
+import java.lang.reflect.Modifier;
 import java.util.ArrayList;
 import java.util.Arrays;
 import java.util.Collections;
@@ -22,7 +23,7 @@ public final class RandomRunsTest {
     };
 
     private final Random random;
-    private final StickerFoundry x = new StickerFoundry();
+    private final Counted x = new Counted();
     private final PlainFoundry plain = new PlainFoundry();
     private final List<Method> methods;
     private int size = 1;
@@ -35,8 +36,8 @@ public final class RandomRunsTest {
 
     public static void main(String[] args) throws ReflectiveOperationException {
         List<Method> methods = new ArrayList<>();
-        for (Method method : StickerFoundry.class.getDeclaredMethods()) {
-            if (java.lang.reflect.Modifier.isPublic(method.getModifiers())) {
+        for (Method method : Foundry.class.getMethods()) {
+            if (Modifier.isAbstract(method.getModifiers())) {
                 methods.add(method);
             }
         }
@@ -57,7 +58,7 @@ public final class RandomRunsTest {
                 typeText(random.nextInt(3) > 0 ? turnText() : noise());
                 call("turn");
             } else if (what < 15) {
-                call("move", number(2 * x.turns()));
+                call("move", number(2 * plain.turns()));
             } else {
                 callAny();
             }
@@ -122,7 +123,7 @@ public final class RandomRunsTest {
         call("cut", 0);
         for (int i = 0; i < text.length(); i += 8) {
             String part = text.substring(i, Math.min(i + 8, text.length()));
-            call("type", Check.bytes(part), part.length());
+            call("type", Foundry.bytes(part), part.length());
         }
     }
 
@@ -136,16 +137,16 @@ public final class RandomRunsTest {
         String name = methods.get(random.nextInt(methods.size())).getName();
         switch (name) {
             case "stickers" -> call(name, random.nextBoolean() ? 0 : 13 + random.nextInt(3));
-            case "type" -> call(name, Check.bytes("(0 1) 2 ") + (random.nextInt(5) == 0 ? 255 : 0), number(9));
+            case "type" -> call(name, Foundry.bytes("(0 1) 2 ") + (random.nextInt(5) == 0 ? 255 : 0), number(9));
             case "cut" -> call(name, number(20));
-            case "image" -> call(name, number(x.turns()), number(size));
-            case "move" -> call(name, number(2 * x.turns()));
+            case "image" -> call(name, number(plain.turns()), number(size));
+            case "move" -> call(name, number(2 * plain.turns()));
             case "swap", "inOrbit", "block" -> call(name, number(size), number(size));
             case "place", "orbit" -> call(name, number(size));
-            case "unrank" -> call(name, (long) number((int) x.order()));
+            case "unrank" -> call(name, (long) number((int) plain.order()));
             case "atDistance", "solution" -> call(name, number(8));
             case "within" -> call(name, number(5));
-            case "write" -> call(name, number(x.turns() + 1) - 1);
+            case "write" -> call(name, number(plain.turns() + 1) - 1);
             case "character" -> call(name, number(24));
             case "turn" -> call(size <= MOST_FOR_ANY_TURN ? name : "turns");
             default -> call(name);
@@ -153,10 +154,13 @@ public final class RandomRunsTest {
     }
 
     private void call(String name, Object... args) throws ReflectiveOperationException {
+        if (calls == CALLS) {
+            return;
+        }
         calls++;
         for (Method method : methods) {
             if (method.getName().equals(name)) {
-                Object want = answer(PlainFoundry.class.getMethod(name, method.getParameterTypes()), plain, args);
+                Object want = answer(method, plain, args);
                 Check.due(name + Arrays.toString(args) + " with " + plain, answer(method, x, args), want);
                 return;
             }
@@ -164,13 +168,12 @@ public final class RandomRunsTest {
         Check.yes("there is a method " + name, false);
     }
 
-    private static Object answer(Method method, Object object, Object[] args) throws ReflectiveOperationException {
+    private static Object answer(Method method, Foundry object, Object[] args) throws ReflectiveOperationException {
         try {
             Object answer = method.invoke(object, args);
             return answer == null ? "nothing" : answer;
         } catch (InvocationTargetException e) {
-            boolean isOwnIndex = object instanceof PlainFoundry && e.getCause() instanceof IndexOutOfBoundsException;
-            return isOwnIndex ? "IndexOutOfBoundsException" : e.getCause().getClass().getSimpleName();
+            return e.getCause().getClass().getSimpleName();
         }
     }
 }

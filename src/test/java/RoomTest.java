@@ -7,10 +7,10 @@ public final class RoomTest {
     /** A run of 512 calls that made even one row of twelve places a call would make more. */
     private static final long MOST_BYTES_OF_RUN = 16 * 1024;
 
-    private static final long FIRST = Check.bytes(" (0 1 2)");
-    private static final long SECOND = Check.bytes(" (5 6 7)");
-    private static final long THIRD = Check.bytes(" (0 2 5)");
-    private static final long FOURTH = Check.bytes(" (2 3 4)");
+    private static final long FIRST = Foundry.bytes(" (0 1 2)");
+    private static final long SECOND = Foundry.bytes(" (5 6 7)");
+    private static final long THIRD = Foundry.bytes(" (0 2 5)");
+    private static final long FOURTH = Foundry.bytes(" (2 3 4)");
     private static final ThreadMXBean THREADS = (ThreadMXBean) ManagementFactory.getThreadMXBean();
 
     public static void main(String[] args) {
@@ -30,7 +30,7 @@ public final class RoomTest {
     }
 
     private static void dearRun(StickerFoundry x) {
-        for (int i = 0; i < 20; i++) {
+        for (int i = 0; i < 18; i++) {
             x.stickers(12);
             turn(x, FIRST);
             turn(x, SECOND);
