@@ -40,6 +40,7 @@ public final class CyclesTest {
 
     private static void isNot(String text) {
         Check.refused(x -> {
+            States.solutionOfAnother(x);
             x.puzzle(12, "(0 1 2)");
             x.move(0);
             x.text(text);

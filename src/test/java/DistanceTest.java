@@ -249,7 +249,8 @@ public final class DistanceTest {
         Check.says("Promise 22", "NONE when there is none such.");
         for (int i : new int[] {0, 1, -1, Integer.MAX_VALUE, Integer.MIN_VALUE}) {
             Check.onlyAnswers(x -> { }, "solution(" + i + ") of a new object", -1, x -> x.solution(i));
-            Check.onlyAnswers(States::allOfTwelve, "solution(" + i + ") before a solve()", -1, x -> x.solution(i));
+            Check.onlyAnswers(x -> x.puzzle(12, States.ALL_OF_TWELVE), "solution(" + i + ") before a solve()", -1,
+                x -> x.solution(i));
         }
         Counted x = Counted.of(4, "(0 1)");
         x.move(0);

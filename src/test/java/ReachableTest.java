@@ -15,12 +15,14 @@ public final class ReachableTest {
         orders();
         greatestOrder();
         orderGrowsTurnByTurn();
+        orderOnlyAnswers();
         orbits();
         orbitsFixing();
         orbitsAtTheEnds();
         noSuchStickerOfOrbit();
         anyNumberOfMoves();
         reachable();
+        reachableOnlyAnswers();
         ranksInOrder();
         ranksOfAll();
         greatRanks();
@@ -58,6 +60,20 @@ public final class ReachableTest {
         orderIs(7920, 12, MATHIEU[0], MATHIEU[1]);
         orderIs(95040, 12, MATHIEU);
         orderIs(518400, 12, "(0 1)", "(0 1 2 3 4 5)", "(6 7)", "(6 7 8 9 10 11)");
+    }
+
+    private static void orderOnlyAnswers() {
+        Check.says("Promise 12", "How many arrangements are reachable.");
+        Check.onlyAnswers(States::square, "order()", 8, x -> x.order());
+        Check.onlyAnswers(States::notReachable, "order(), not reachable", 6, x -> x.order());
+        Check.onlyAnswers(States::allOfTwelve, "order() of all", MOST, x -> x.order());
+    }
+
+    private static void reachableOnlyAnswers() {
+        Check.says("Promise 15", "Whether the arrangement is reachable.");
+        Check.onlyAnswers(States::square, "reachable()", true, x -> x.reachable());
+        Check.onlyAnswers(States::notReachable, "reachable(), not reachable", false, x -> x.reachable());
+        Check.onlyAnswers(States::allOfTwelve, "reachable() of all", true, x -> x.reachable());
     }
 
     private static void greatestOrder() {
@@ -273,6 +289,7 @@ public final class ReachableTest {
         Check.refused(States::withoutTurns, "rank() without turns", why, x -> x.rank());
         Check.refused(States::justTooMany, "rank() of nine", why, x -> x.rank());
         Check.refused(x -> {
+            States.solutionOfAnother(x);
             x.puzzle(12, "(0 1 2)", "(1 2 3 4 5 6 7 8 9 10 11)");
             x.swap(10, 11);
         }, "rank() after one swap of twelve", why, x -> x.rank());

@@ -36,6 +36,13 @@ final class States {
             new Named("twelve stickers, five turns, all arrangements, full text", 12, 5, States::allOfTwelve));
     }
 
+    /** A solution found before, so that it can be seen whether it stays. */
+    static void solutionOfAnother(Foundry x) {
+        x.puzzle(9, "(0 1 2 3 4 5 6 7 8)");
+        x.moveAll(1, 1, 1, 1);
+        x.solve();
+    }
+
     static void oneSticker(Foundry x) {
         x.puzzle(1, "", "(0)", " ( 0 ) ", "(0)", "  ");
         x.text(FULL_TEXT);
@@ -57,9 +64,7 @@ final class States {
     }
 
     static void notReachable(Foundry x) {
-        x.puzzle(9, "(0 1 2 3 4 5 6 7 8)");
-        x.moveAll(1, 1, 1, 1);
-        x.solve();
+        solutionOfAnother(x);
         x.puzzle(6, "(0 1 2)", "(3 4)");
         x.text("(3 4)(5 3)");
         x.swap(0, 5);
@@ -79,14 +84,13 @@ final class States {
     }
 
     static void justTooMany(Foundry x) {
-        x.puzzle(9, "(0 1 2 3)");
-        x.moveAll(0, 0);
-        x.solve();
+        solutionOfAnother(x);
         x.puzzle(9, JUST_TOO_MANY);
         x.swap(0, 8);
     }
 
     static void allOfTwelve(Foundry x) {
+        solutionOfAnother(x);
         x.puzzle(12, ALL_OF_TWELVE);
         x.moveAll(0, 3, 4, 9, 6);
         x.text(FULL_TEXT);

@@ -23,6 +23,14 @@ public final class TextTest {
         Check.finish();
     }
 
+    /** A puzzle with all that it can have, and this text. */
+    private static State with(String text) {
+        return x -> {
+            States.square(x);
+            x.text(text);
+        };
+    }
+
     private static String textOf(int length) {
         return States.FULL_TEXT.substring(0, length);
     }
@@ -83,7 +91,7 @@ public final class TextTest {
             for (int n = 1; n <= 8; n++) {
                 int number = n;
                 if (length + n > MOST) {
-                    Check.isFalse(x -> x.text(text), "type of " + n + " behind " + length,
+                    Check.isFalse(with(text), "type of " + n + " behind " + length,
                         x -> x.type(Foundry.bytes(EIGHT), number));
                 } else {
                     Counted x = Counted.in(y -> y.text(text));
@@ -99,7 +107,7 @@ public final class TextTest {
         for (int length : new int[] {0, 1, 39, 40, 47, MOST}) {
             for (int n : new int[] {0, 9, -1, 10, -8, 16, 48, 64, 256 + 1, Integer.MAX_VALUE, Integer.MAX_VALUE - 47,
                 Integer.MIN_VALUE, Integer.MIN_VALUE + 1}) {
-                Check.isFalse(x -> x.text(textOf(length)), "type of " + n + " behind " + length,
+                Check.isFalse(with(textOf(length)), "type of " + n + " behind " + length,
                     x -> x.type(Foundry.bytes(EIGHT), n));
             }
         }
@@ -115,7 +123,7 @@ public final class TextTest {
                     Check.no("type of " + n + " with " + bad + " at " + i, x.type(w, n));
                     Check.due("text", x.readText(), "(0)");
                 }
-                Check.isFalse(y -> y.text("(0)"), "type of eight with " + bad + " at " + i, x -> x.type(w, 8));
+                Check.isFalse(with("(0)"), "type of eight with " + bad + " at " + i, x -> x.type(w, 8));
             }
         }
         for (int c = 0; c < 256; c++) {
@@ -129,9 +137,9 @@ public final class TextTest {
 
     private static void severalReasons() {
         Check.says("Promise 3", "False, changing nothing, when n is not 1 .. 8, there would be more than 48, or one");
-        Check.isFalse(x -> x.text(textOf(MOST)), "a bad one behind the full text", x -> x.type(7, 1));
-        Check.isFalse(x -> x.text(textOf(MOST)), "nine bad ones behind it", x -> x.type(-1L, 9));
-        Check.isFalse(x -> x.text(textOf(45)), "the fourth is bad and the 49th", x -> x.type(0x7F616161L, 4));
+        Check.isFalse(with(textOf(MOST)), "a bad one behind the full text", x -> x.type(7, 1));
+        Check.isFalse(with(textOf(MOST)), "nine bad ones behind it", x -> x.type(-1L, 9));
+        Check.isFalse(with(textOf(45)), "the fourth is bad and the 49th", x -> x.type(0x7F616161L, 4));
         Check.isFalse(States::allOfTwelve, "one more, in the greatest puzzle", x -> x.type('a', 1));
     }
 
@@ -153,7 +161,7 @@ public final class TextTest {
 
     private static void cutOfTheFull() {
         Check.says("Promise 4", "The text keeps its first n characters.");
-        State full = x -> x.text(textOf(MOST));
+        State full = with(textOf(MOST));
         Check.onlyAnswers(full, "cut(48) of the full", true, x -> x.cut(MOST));
         Check.isFalse(full, "cut(49) of the full", x -> x.cut(MOST + 1));
     }
@@ -163,9 +171,9 @@ public final class TextTest {
         for (int length : new int[] {0, 1, 6, 47, MOST}) {
             for (int n : new int[] {-1, length + 1, length + 2, 49, 50, 256, -length - 1, Integer.MAX_VALUE,
                 Integer.MIN_VALUE, Integer.MIN_VALUE + 1}) {
-                Check.isFalse(x -> x.text(textOf(length)), "cut(" + n + ") of " + length, x -> x.cut(n));
+                Check.isFalse(with(textOf(length)), "cut(" + n + ") of " + length, x -> x.cut(n));
             }
-            Check.onlyAnswers(x -> x.text(textOf(length)), "cut of all " + length, true, x -> x.cut(length));
+            Check.onlyAnswers(with(textOf(length)), "cut of all " + length, true, x -> x.cut(length));
         }
     }
 

@@ -1,4 +1,4 @@
-import java.util.ArrayList;
+import java.util.Arrays;
 import java.util.List;
 
 /** Promises 5 (turn), 6 (turns) and 7 (image). */
@@ -96,6 +96,7 @@ public final class TurnTest {
 
     private static void refused(int stickers, String text, Class<? extends RuntimeException> why, String... turns) {
         Check.refused(x -> {
+            States.solutionOfAnother(x);
             x.puzzle(stickers, turns);
             x.text(text);
             x.swap(0, stickers - 1);
@@ -226,8 +227,7 @@ public final class TurnTest {
         Counted x = Counted.of(12, "(0 1 2)", "(11 0)", "", "(5)", "(10 9 8 7 6 5 4 3 2 1)");
         x.move(0);
         x.swap(0, 7);
-        List<Integer> last = new ArrayList<>(List.of(0, 10, 1, 2, 3, 4, 5, 6, 7, 8, 9, 11));
-        Check.due("turn 4", x.readTurn(4), last);
+        Check.due("turn 4", x.readTurn(4), List.of(0, 10, 1, 2, 3, 4, 5, 6, 7, 8, 9, 11));
         Check.due("image(0, 0)", x.image(0, 0), 1);
         Check.due("image(0, 2)", x.image(0, 2), 0);
         Check.due("image(0, 11)", x.image(0, 11), 11);
@@ -240,7 +240,7 @@ public final class TurnTest {
     private static void noSuchTurnOrPlace() {
         Check.says("Promise 7", "Where a turn takes what is at a place.");
         for (int turns = 0; turns <= 5; turns++) {
-            String[] some = java.util.Arrays.copyOf(FIVE, turns);
+            String[] some = Arrays.copyOf(FIVE, turns);
             for (int t = 0; t < turns; t++) {
                 Check.due("image(" + t + ", 0)", Counted.of(3, some).image(t, 0), t < 2 ? 1 : 0);
             }

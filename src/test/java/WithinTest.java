@@ -8,6 +8,7 @@ public final class WithinTest {
         ofAnyPuzzle();
         leastNumber();
         tenMoves();
+        lastMoves();
         notReachable();
         withoutTurns();
         noSuchLimit();
@@ -84,6 +85,19 @@ public final class WithinTest {
                 int want = plain.within(4);
                 Check.yes("by four moves at most", want != -1);
                 withinIs(x, want, "after " + first + ", 4, 0, " + last);
+            }
+        }
+    }
+
+    private static void lastMoves() {
+        Check.says("Promise 23", "The least number of moves that lead from the arrangement to the solved one");
+        for (int move = 0; move < 10; move++) {
+            String[] turns = {"", "(0)", "(11)", " ", "(4)(5)"};
+            turns[move / 2] = "(0 1 2 3 4 5 6 7 8 9 10 11)";
+            Counted x = Counted.of(12, turns);
+            for (int moves = 1; moves <= 5; moves++) {
+                x.move(move);
+                withinIs(x, moves, "after " + moves + " times " + move);
             }
         }
     }

@@ -1,3 +1,4 @@
+import java.util.Arrays;
 import java.util.List;
 
 /** Promise 24 (write), and what the terms say of writing in cycles. */
@@ -176,7 +177,7 @@ public final class WriteTest {
         Check.says("Terms", "turns and moves that there are not are refused with IndexOutOfBoundsException by all calls");
         String[] five = {"(0 1)", "(1 2)", "", "(3)", "(0 1 2 3)"};
         for (int turns = 0; turns <= 5; turns++) {
-            String[] some = java.util.Arrays.copyOf(five, turns);
+            String[] some = Arrays.copyOf(five, turns);
             for (int t = -1; t < turns; t++) {
                 int number = t;
                 Counted x = Counted.of(4, some);
