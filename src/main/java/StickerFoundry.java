@@ -677,7 +677,9 @@ public final class StickerFoundry {
             for (int turn = 0; turn < moves.turnCount(); turn++) {
                 long row = moves.turnRow(turn);
                 for (int place = 0; place < MOST_STICKERS; place++) {
-                    joined |= join(Row.at(row, place), Row.at(row, least[place]));
+                    if (join(Row.at(row, place), Row.at(row, least[place]))) {
+                        joined = true;
+                    }
                 }
             }
             return joined;

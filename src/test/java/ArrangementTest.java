@@ -8,6 +8,7 @@ public final class ArrangementTest {
 
     public static void main(String[] args) {
         noTwoAtOnePlace();
+        solvedIfEachIsAtItsPlace();
         moves();
         eachMove();
         noSuchMove();
@@ -40,6 +41,22 @@ public final class ArrangementTest {
                     x.unrank(x.order() - 1);
                 }
             }
+        }
+    }
+
+    private static void solvedIfEachIsAtItsPlace() {
+        Check.says("Terms", "it is SOLVED if each sticker s is at place s.");
+        for (int n = 1; n <= 12; n++) {
+            Counted x = Counted.of(n);
+            for (int a = 0; a < n; a++) {
+                for (int b = 0; b < n; b++) {
+                    x.swap(a, b);
+                    Check.due("moves to the solved one after swap(" + a + ", " + b + ")", x.within(0), a == b ? 0 : -1);
+                    x.swap(b, a);
+                }
+            }
+            Check.due("moves to the solved one", x.within(0), 0);
+            Check.due("distance of the solved one", x.solve(), 0);
         }
     }
 

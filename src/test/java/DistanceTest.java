@@ -1,3 +1,4 @@
+import java.lang.reflect.Field;
 import java.util.List;
 
 /** Promises 19 (diameter), 20 (atDistance), 21 (solve) and 22 (solution). */
@@ -5,13 +6,14 @@ public final class DistanceTest {
     private static final String[] SIXTY = {"(1 2)(4 6)(7 11)(8 10)", "(0 1)(3 4)(5 6)(7 8)(9 11)"};
     private static final Class<UnsupportedOperationException> TOO_MANY = UnsupportedOperationException.class;
 
-    public static void main(String[] args) {
+    public static void main(String[] args) throws ReflectiveOperationException {
         leastDistances();
         distances();
         noSuchDistance();
         distancesFollowTheTurns();
         justFewEnough();
         justTooMany();
+        limitItself();
         tooManyFirst();
         solveTheSolved();
         solveNotReachable();
@@ -132,6 +134,36 @@ public final class DistanceTest {
         Counted x = Counted.in(States::allOfTwelve);
         x.puzzle(3, "(0 1 2)");
         Check.due("a small puzzle after a great one", x.diameter(), 1);
+    }
+
+    /**
+     * No puzzle has 1441 to 1511 arrangements: of these numbers only 1485 divides 12!, and no group on twelve places
+     * whose order is a multiple of eleven has just so many. So the number that the object holds is set here, and it is
+     * looked only at which calls refuse then.
+     */
+    private static void limitItself() throws ReflectiveOperationException {
+        Check.says("Promise 19", "UnsupportedOperationException when more than 1500 arrangements are reachable.");
+        for (int order = 1440; order <= 1512; order++) {
+            String due = order <= 1500 ? "0" : "UnsupportedOperationException";
+            Check.due("diameter() of " + order, Check.answer(withOrder(order), x -> x.diameter()), due);
+            Check.due("atDistance(9) of " + order, Check.answer(withOrder(order), x -> x.atDistance(9)), due);
+            Check.due("solve() of " + order, Check.answer(withOrder(order), x -> x.solve()), due);
+        }
+    }
+
+    /** A new object that takes its puzzle, which has one arrangement, for one that has so many. */
+    private static Counted withOrder(int order) throws ReflectiveOperationException {
+        Counted x = new Counted();
+        int[] pointCounts = (int[]) held(held(held(x, "x"), "chain"), "pointCounts");
+        pointCounts[0] = order;
+        Check.due("order()", x.order(), (long) order);
+        return x;
+    }
+
+    private static Object held(Object object, String name) throws ReflectiveOperationException {
+        Field field = object.getClass().getDeclaredField(name);
+        field.setAccessible(true);
+        return field.get(object);
     }
 
     private static void tooManyFirst() {
